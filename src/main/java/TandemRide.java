@@ -37,6 +37,8 @@ public final class TandemRide {
     private static final int SLIP_SECONDS = 5;
     private static final int TENTHS = 10;
     private static final int HUNDREDTHS = 100;
+    /** More than any sum of seconds, pushes or bits of calls comes to. */
+    private static final int FAR = 1000000000;
 
     private static final int WAY_FAULT = 0;
     private static final int PLAN_FAULT = 1;
@@ -58,7 +60,7 @@ public final class TandemRide {
         pad = new Pad();
         plan = new Plan();
         ride = new Ride();
-        search = new Search();
+        search = new Search(now);
     }
 
     // ---- 1 riders, ways, plans
@@ -172,7 +174,7 @@ public final class TandemRide {
     public int soonest(int what) {
         if (!areSeated()) return STATE;
         if (!isWithin(what, 0, 1)) return OUTSIDE;
-        search.seek(now, now.riderInFront(), now.riderInBack());
+        search.seek(now.riderInFront(), now.riderInBack());
         return what == 0 ? search.fewest : search.firstStretch;
     }
 
@@ -239,7 +241,7 @@ public final class TandemRide {
     public int calls(int k, int what) {
         if (!isWithin(k, 0, MOST_SORE) || !isWithin(what, 0, 1)) return OUTSIDE;
         if (now.corners() + now.bumps() > MOST_CHOSEN) return FULL;
-        int fewest = search.fewestCalls(now, k);
+        int fewest = search.fewestCalls(k);
         return what == 0 ? fewest >> MOST_STRETCHES : fewest & ((1 << MOST_STRETCHES) - 1);
     }
 
@@ -264,7 +266,7 @@ public final class TandemRide {
             // The same two the other way round are as soon, and tell a greater number.
             for (int back = front + 1; back < RIDERS; back++) {
                 if (!now.isThere(front) || !now.isThere(back)) continue;
-                search.seek(now, now.riders[front], now.riders[back]);
+                search.seek(now.riders[front], now.riders[back]);
                 if (pair == NONE || search.fewest < fewest) {
                     pair = 10 * front + back;
                     fewest = search.fewest;
@@ -344,7 +346,7 @@ public final class TandemRide {
         if (!isWithin(seed, 0, MOST_SEED) || !isWithin(n, 1, MOST_DAYS) || !isWithin(what, 0, 2)) return OUTSIDE;
         int x = seed;
         int sum = 0;
-        int least = Integer.MAX_VALUE;
+        int least = FAR;
         int greatest = 0;
         for (int day = 0; day < n; day++) {
             x = (75 * x + 74) % 65537;
@@ -440,8 +442,8 @@ public final class TandemRide {
     private int unevenness(int effortFront, int effortBack, int p) {
         int pushFront = effortFront * now.riderInFront().strength;
         int pushBack = effortBack * now.riderInBack().strength;
-        int most = Integer.MIN_VALUE;
-        int least = Integer.MAX_VALUE;
+        int most = 0;
+        int least = FAR;
         for (int k = 0; k < TWELFTHS; k++) {
             int push = pushFront * crankAt(k) + pushBack * crankAt((k + p) % TWELFTHS);
             most = Math.max(most, push);
@@ -828,30 +830,35 @@ public final class TandemRide {
     private static final class Search {
         private static final int WINDS = MOST_WIND + 1;
         private static final int HEATS = MOST_HOTTEST + 1;
-        private static final int FAR = 1000000000;
 
         int fewest;
         int firstStretch;
 
         private final int[] pairTreads = new int[PAIRS_OF_EFFORTS];
-        private final int[] choices = new int[PAIRS_OF_EFFORTS];
+        private final int[] choiceFront = new int[PAIRS_OF_EFFORTS];
+        private final int[] choiceBack = new int[PAIRS_OF_EFFORTS];
         private final int[] choiceSeconds = new int[PAIRS_OF_EFFORTS];
-        private int choicesMany;
+        private int choices;
         private final int[] heatBits = new int[MOST_STRETCHES + 1];
         private int[] onward = new int[HEATS * WINDS * WINDS];
         private int[] spare = new int[HEATS * WINDS * WINDS];
         private int[] callsBySore = new int[MOST_SORE + 1];
         private int[] callsBehind = new int[MOST_SORE + 1];
-        private Setup setup;
+        private final Setup setup;
         private Rider front;
         private Rider back;
+
+        Search(Setup ofSetup) {
+            setup = ofSetup;
+            front = ofSetup.riderInFront();
+            back = ofSetup.riderInBack();
+        }
 
         /**
          * From the last stretch to the first: the fewest seconds from there on, by heat and both winds
          * ahead of the stretch.
          */
-        void seek(Setup ofSetup, Rider inFront, Rider inBack) {
-            setup = ofSetup;
+        void seek(Rider inFront, Rider inBack) {
             front = inFront;
             back = inBack;
             for (int pair = 0; pair < PAIRS_OF_EFFORTS; pair++) {
@@ -902,14 +909,15 @@ public final class TandemRide {
          * another that takes no longer, as more wind is never worse.
          */
         private void listChoices(int hard) {
-            choicesMany = 0;
+            choices = 0;
             for (int pair = 0; pair < PAIRS_OF_EFFORTS; pair++) {
                 int seconds = Ground.secondsOf(hard, pairTreads[pair]);
                 if (pair >= EFFORTS && Ground.secondsOf(hard, pairTreads[pair - EFFORTS]) == seconds) continue;
                 if (pair % EFFORTS > 0 && Ground.secondsOf(hard, pairTreads[pair - 1]) == seconds) continue;
-                choices[choicesMany] = pair;
-                choiceSeconds[choicesMany] = seconds;
-                choicesMany++;
+                choiceFront[choices] = pair / EFFORTS;
+                choiceBack[choices] = pair % EFFORTS;
+                choiceSeconds[choices] = seconds;
+                choices++;
             }
         }
 
@@ -917,9 +925,9 @@ public final class TandemRide {
         private int fewestOnward(int heatBehind, int wf, int wb, int limit) {
             if (heatBehind > setup.hottest) return limit;
             int least = limit;
-            for (int c = 0; c < choicesMany; c++) {
-                int nextFront = front.windBehind(wf, choices[c] / EFFORTS);
-                int nextBack = back.windBehind(wb, choices[c] % EFFORTS);
+            for (int c = 0; c < choices; c++) {
+                int nextFront = front.windBehind(wf, choiceFront[c]);
+                int nextBack = back.windBehind(wb, choiceBack[c]);
                 if (nextFront < 0 || nextBack < 0) continue;
                 least = Math.min(least, choiceSeconds[c] + onward[cellOf(heatBehind, nextFront, nextBack)]);
             }
@@ -967,10 +975,10 @@ public final class TandemRide {
          * The fewest calls above the bits of which stretches, as one number, so that the least of the numbers
          * is of the fewest calls and of these the least as bits.
          */
-        int fewestCalls(Setup ofSetup, int mostSore) {
+        int fewestCalls(int mostSore) {
             for (int sore = 0; sore <= mostSore; sore++) callsBySore[sore] = sore == 0 ? 0 : FAR;
-            for (int i = 0; i < ofSetup.stretches; i++) {
-                int sort = ofSetup.ground[i];
+            for (int i = 0; i < setup.stretches; i++) {
+                int sort = setup.ground[i];
                 boolean callable = sort == Ground.CORNER || sort == Ground.BUMP;
                 for (int sore = 0; sore <= mostSore; sore++) callsBehind[sore] = FAR;
                 for (int sore = 0; sore <= mostSore; sore++) {
