@@ -68,9 +68,12 @@ public final class QuarrelsTest {
         x.rider(1, 10, 10, 9, 30);
         x.set(2, 0);
         quarrelOf(x, "11g", 1, 59);
-        x.set(2, 50);
-        x.rider(1, 10, 10, 9, 20);
+        x.rider(0, 5, 10, 9, 0);
+        x.rider(1, 10, 10, 9, 0);
         quarrelOf(x, "11g", 9, 0);
+        x.rider(0, 5, 10, 9, 50);
+        x.rider(1, 10, 10, 9, 50);
+        quarrelOf(x, "00g", 9, 0);
         due("quarrel(-1)", x.quarrel(-1), -2);
         due("quarrel(100)", x.quarrel(100), -2);
         quarrelOf(x, "11", 1, -5);

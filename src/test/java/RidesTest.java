@@ -138,6 +138,8 @@ public final class RidesTest {
         due("share(2)", x.share(2), GONE - 2);
         x.rider(0, 5, 5, 1, 0);
         shares(x, "44a44a44a", GONE - 5, GONE - 5);
+        x.rider(0, 1, 4, 1, 0);
+        shares(x, "10a00a00a", 1, 1);
     }
 
     private static void unseenOf(TandemRide x, String plan, int bits) {
