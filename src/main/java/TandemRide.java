@@ -282,8 +282,9 @@ public final class TandemRide {
         if (!areSeated()) return STATE;
         if (!isWithin(n, 0, MOST_DAYS)) return OUTSIDE;
         if (!planIsRidden()) return NO;
-        int believed = believedBy(now.riderInFront(), ride.treadsFront) + believedBy(now.riderInBack(), ride.treadsBack);
-        int above = Math.max(0, believed - HUNDREDTHS);
+        int believedFront = believedBy(now.riderInFront(), ride.treadsFront);
+        int believedBack = believedBy(now.riderInBack(), ride.treadsBack);
+        int above = Math.max(0, believedFront + believedBack - HUNDREDTHS);
         int quarrel = 0;
         for (int day = 0; day < n; day++) {
             quarrel = Math.min(MOST_QUARREL, Math.max(0, quarrel + above - now.calm));
@@ -731,7 +732,7 @@ public final class TandemRide {
         final int[] effortBack = new int[MOST_STRETCHES];
         final int[] beat = new int[MOST_STRETCHES];
 
-        /** Reads the pad into the rows: the fault, or NONE. Behind the last sign nothing fits, so its number is told. */
+        /** Reads the pad into the rows: the fault, or NONE. Behind the last sign nothing fits: the fault is there. */
         int read(Pad pad, int stretches) {
             int place = 0;
             for (int i = 0; i < stretches; i++) {
@@ -876,7 +877,7 @@ public final class TandemRide {
             for (int i = 0; i < setup.stretches; i++) {
                 int bits = 0;
                 for (int heat = 0; heat <= setup.hottest; heat++) {
-                    // Heat 0 stands for a rest, too, which is free ahead of any stretch.
+                    // Heat 0 stands for a rest, too, which may come ahead of any stretch.
                     if (heat != 0 && (heatBits[i] >> heat & 1) == 0) continue;
                     int behind = Ground.heatBehind(heat, setup.ground[i]);
                     if (behind <= setup.hottest) bits |= 1 << behind;
