@@ -1,14 +1,18 @@
 import java.util.Random;
 
-/** Long runs of calls, drawn from fixed seeds, on the class and on the model side by side. */
+/** Runs of calls, drawn from fixed seeds, on the class and on the model side by side. */
 public final class AgainstModelTest {
-    private static final int RUNS = 200;
-    private static final int STEPS = 300;
+    private static final int RUNS = 1800;
+    /** An object is promised for so many calls. */
+    private static final int CALLS = 512;
+    private static final int MOST_CALLS_OF_A_STEP = 125;
+    private static final int CALLS_TO_TELL_ALL = 135;
 
     private final Check check;
     private final Random draws;
     private final TandemRide ride = new TandemRide();
     private final Model model = new Model();
+    private int calls = 0;
 
     private AgainstModelTest(Check check, long seed) {
         this.check = check;
@@ -31,7 +35,7 @@ public final class AgainstModelTest {
                 if (r < 2 || draws.nextBoolean()) callRider(r);
             }
         }
-        for (int step = 0; step < STEPS && check.wrong() == 0; step++) {
+        while (calls + MOST_CALLS_OF_A_STEP + CALLS_TO_TELL_ALL <= CALLS && check.wrong() == 0) {
             switch (draws.nextInt(12)) {
                 case 0: takeAWay(); break;
                 case 1: case 2: sayAPlan(); break;
@@ -39,10 +43,10 @@ public final class AgainstModelTest {
                 case 4: sayAnything(); break;
                 default: ask(); break;
             }
-            if (draws.nextInt(40) == 0) tellAll();
             if (tidy && draws.nextInt(5) == 0) seatWhoIsMissing();
         }
         tellAll();
+        check.due("calls of one object, " + calls, calls <= CALLS);
     }
 
     /** Mostly a number within the bounds, else one beside them or far off. */
@@ -67,7 +71,7 @@ public final class AgainstModelTest {
     }
 
     private void sayAPlan() {
-        int stretches = ride.told(7);
+        int stretches = told(7);
         int rests = draws.nextInt(4);
         int style = draws.nextInt(4);
         wipe();
@@ -119,8 +123,8 @@ public final class AgainstModelTest {
 
     private void seatWhoIsMissing() {
         for (int r = 2; r <= 3; r++) {
-            int seated = ride.told(r);
-            if ((ride.told(1) >> seated & 1) == 0) callRider(seated);
+            int seated = told(r);
+            if ((told(1) >> seated & 1) == 0) callRider(seated);
         }
     }
 
@@ -163,9 +167,9 @@ public final class AgainstModelTest {
     }
 
     private void askOfPlan() {
-        int what = number(0, 1), m = number(-1, ride.told(7) - 1), which = number(0, 3), n = number(0, 99);
+        int what = number(0, 1), m = number(-1, told(7) - 1), which = number(0, 3), n = number(0, 99);
         int t = number(0, 10), seconds = number(0, 9999), part = number(0, 1);
-        int base = ride.ridden(-1, 0);
+        int base = model.ridden(-1, 0);
         if (draws.nextInt(5) != 0) seconds = base + draws.nextInt(70) - 5;
         due("judge(" + what + ")", ride.judge(what), model.judge(what));
         due("ridden(" + m + ", " + which + ")", ride.ridden(m, which), model.ridden(m, which));
@@ -209,7 +213,13 @@ public final class AgainstModelTest {
         due("told(" + far + ")", ride.told(far), model.told(far));
     }
 
+    private int told(int what) {
+        calls++;
+        return ride.told(what);
+    }
+
     private void due(String call, long got, long want) {
+        calls++;
         check.due(call, got, want);
     }
 }

@@ -106,12 +106,14 @@ public final class LanguageTest {
             CHECK.due("no " + word, !Pattern.compile("\\b" + Pattern.quote(word) + "\\b").matcher(code).find());
         }
         CHECK.due("no lambda, no method reference", !code.contains("->") && !code.contains("::"));
-        CHECK.due("no text constant", !code.contains("\""));
+        CHECK.due("all signs are 1 to 127", code.chars().allMatch(sign -> sign > 0 && sign < 128));
         Matcher library = Pattern.compile("\\b(System|Math|Integer|Long|Arrays)\\.(\\w+)").matcher(code);
-        List<String> allowed = Arrays.asList("System.arraycopy", "Math.max", "Math.min", "Math.abs",
-            "Integer.bitCount");
-        while (library.find()) CHECK.due(library.group() + " is allowed", allowed.contains(library.group()));
-        Matcher loop = Pattern.compile("\\b(while|do)\\b").matcher(code);
-        CHECK.due("all loops count", !loop.find());
+        while (library.find()) CHECK.due(library.group() + " is allowed", isAllowed(library.group(1), library.group(2)));
+    }
+
+    private static boolean isAllowed(String type, String function) {
+        if (type.equals("System")) return function.equals("arraycopy");
+        if (type.equals("Arrays")) return function.equals("fill") || function.startsWith("copyOf");
+        return !function.endsWith("Exact");
     }
 }

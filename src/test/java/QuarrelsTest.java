@@ -282,15 +282,18 @@ public final class QuarrelsTest {
         same(before, all(x), 2);
     }
 
+    /** What is told of all that stands, by few enough calls that an object can be asked seven times. */
     private static int[] all(TandemRide x) {
-        int[] all = new int[130];
-        for (int what = 0; what < all.length; what++) all[what] = x.told(what);
+        int[] all = new int[31];
+        for (int i = 0; i < 9; i++) all[i] = x.told(i);
+        for (int i = 0; i < 16; i++) all[9 + i] = x.told(10 * (1 + i / 4) + i % 4);
+        for (int i = 0; i < 6; i++) all[25 + i] = x.told(100 + i);
         return all;
     }
 
     private static void same(int[] want, int[] got, int signs) {
         due("told(0)", got[0], signs);
-        for (int what = 1; what < want.length; what++) due("told(" + what + ")", got[what], want[what]);
+        for (int i = 1; i < want.length; i++) due("what is told, place " + i, got[i], want[i]);
     }
 
     private static void told() {
