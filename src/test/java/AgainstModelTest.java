@@ -3,6 +3,7 @@ import java.util.Random;
 /** Runs of calls, drawn from fixed seeds, on the class and on the model side by side. */
 public final class AgainstModelTest {
     private static final int RUNS = 1800;
+    private static final int SOONEST_RUNS = 1200;
     /** An object is promised for so many calls. */
     private static final int CALLS = 512;
     private static final int MOST_CALLS_OF_A_STEP = 125;
@@ -24,6 +25,10 @@ public final class AgainstModelTest {
         for (int run = 0; run < RUNS && check.wrong() == 0; run++) {
             check.promise("run " + run);
             new AgainstModelTest(check, run).run();
+        }
+        for (int run = 0; run < SOONEST_RUNS && check.wrong() == 0; run++) {
+            check.promise("soonest, run " + run);
+            new AgainstModelTest(check, 10000 + run).runOfSoonest();
         }
         check.end("AgainstModelTest");
     }
@@ -47,6 +52,32 @@ public final class AgainstModelTest {
         }
         tellAll();
         check.due("calls of one object, " + calls, calls <= CALLS);
+    }
+
+    /** Short ways and little wind, where each second and each wind counts. */
+    private void runOfSoonest() {
+        int strongest = draws.nextInt(3) == 0 ? 20 : 3;
+        int[] pauses = {0, 1, 2, 5, 20, 60, 99};
+        for (int r = 0; r < 4; r++) {
+            int s = 1 + draws.nextInt(strongest), l = 4 + draws.nextInt(7), w = 1 + draws.nextInt(4);
+            due("rider(" + r + ", " + s + ", " + l + ", " + w + ", 0)",
+                ride.rider(r, s, l, w, 0), model.rider(r, s, l, w, 0));
+        }
+        for (int round = 0; round < 4; round++) {
+            wipe();
+            for (int many = 2 + draws.nextInt(3); many > 0; many--) say(".uUdD".charAt(draws.nextInt(5)));
+            due("way()", ride.way(), model.way());
+            int hottest = 5 + draws.nextInt(6), pause = pauses[draws.nextInt(pauses.length)];
+            int front = draws.nextInt(4), back = (front + 1 + draws.nextInt(3)) % 4;
+            due("set(0, " + hottest + ")", ride.set(0, hottest), model.set(0, hottest));
+            due("set(1, " + pause + ")", ride.set(1, pause), model.set(1, pause));
+            due("seat(" + front + ", " + back + ")", ride.seat(front, back), model.seat(front, back));
+            due("soonest(0)", ride.soonest(0), model.soonest(0));
+            due("soonest(1)", ride.soonest(1), model.soonest(1));
+            if (round > 0) continue;
+            due("bestPair(0)", ride.bestPair(0), model.bestPair(0));
+            due("bestPair(1)", ride.bestPair(1), model.bestPair(1));
+        }
     }
 
     /** Mostly a number within the bounds, else one beside them or far off. */

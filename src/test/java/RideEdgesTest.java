@@ -516,6 +516,10 @@ public final class RideEdgesTest {
         soonestOf(unlike("Ud", 7, 3, 1, 2), 8 + 2, 423);
         // 03 then 34.
         soonestOf(unlike("d.", 1, 1, 5, 3), 2 + 3, 33);
+        CHECK.promise("15 EFFORT 0 of both takes HARD by 1 alone, whatever WIND it brings back");
+        // 24, 20, 44; on 44, 00, 44 the middle one would take 14 more on D, 20 more on d, and the first 8 less.
+        soonestOf(unlike("UDU", 1, 2, 1, 2), 35 + 7 + 27, 243);
+        soonestOf(unlike("UdU", 1, 2, 1, 2), 35 + 11 + 27, 243);
         CHECK.promise("15 behind a rest each has its own most WIND");
         x = unlike("d.", 1, 3, 1, 1);
         x.set(1, 1);
