@@ -60,7 +60,7 @@ public final class TandemRide {
         pad = new Pad();
         plan = new Plan();
         ride = new Ride();
-        search = new Search(now);
+        search = new Search();
     }
 
     // ---- 1 riders, ways, plans
@@ -174,7 +174,7 @@ public final class TandemRide {
     public int soonest(int what) {
         if (!areSeated()) return STATE;
         if (!isWithin(what, 0, 1)) return OUTSIDE;
-        search.seek(now.riderInFront(), now.riderInBack());
+        search.seek(now, now.riderInFront(), now.riderInBack());
         return what == 0 ? search.fewest : search.firstStretch;
     }
 
@@ -241,7 +241,7 @@ public final class TandemRide {
     public int calls(int k, int what) {
         if (!isWithin(k, 0, MOST_SORE) || !isWithin(what, 0, 1)) return OUTSIDE;
         if (now.corners() + now.bumps() > MOST_CHOSEN) return FULL;
-        int fewest = search.fewestCalls(k);
+        int fewest = search.fewestCalls(now, k);
         return what == 0 ? fewest >> MOST_STRETCHES : fewest & ((1 << MOST_STRETCHES) - 1);
     }
 
@@ -266,7 +266,7 @@ public final class TandemRide {
             // The same two the other way round are as soon, and tell a greater number.
             for (int back = front + 1; back < RIDERS; back++) {
                 if (!now.isThere(front) || !now.isThere(back)) continue;
-                search.seek(now.riders[front], now.riders[back]);
+                search.seek(now, now.riders[front], now.riders[back]);
                 if (pair == NONE || search.fewest < fewest) {
                     pair = 10 * front + back;
                     fewest = search.fewest;
@@ -530,9 +530,9 @@ public final class TandemRide {
             return treadsAsLiked(effort) - treads(effort, beat);
         }
 
-        /** The wind behind a stretch; below 0 if the stretch can not be. */
-        int windBehind(int ahead, int effort) {
-            return Math.min(wind, ahead + 2 - effort);
+        /** The wind behind a stretch of one who has so much at most; below 0 if the stretch can not be. */
+        static int windBehind(int most, int ahead, int effort) {
+            return Math.min(most, ahead + 2 - effort);
         }
     }
 
@@ -789,8 +789,8 @@ public final class TandemRide {
                     wb = back.wind;
                     hot = 0;
                 }
-                wf = front.windBehind(wf, plan.effortFront[i]);
-                wb = back.windBehind(wb, plan.effortBack[i]);
+                wf = Rider.windBehind(front.wind, wf, plan.effortFront[i]);
+                wb = Rider.windBehind(back.wind, wb, plan.effortBack[i]);
                 hot = Ground.heatBehind(hot, setup.ground[i]);
                 reason = reasonAgainst(wf, wb, hot, setup.hottest);
                 if (reason != NONE) {
@@ -845,57 +845,57 @@ public final class TandemRide {
         private int[] spare = new int[HEATS * WINDS * WINDS];
         private int[] callsBySore = new int[MOST_SORE + 1];
         private int[] callsBehind = new int[MOST_SORE + 1];
-        private final Setup setup;
-        private Rider front;
-        private Rider back;
-
-        Search(Setup ofSetup) {
-            setup = ofSetup;
-            front = ofSetup.riderInFront();
-            back = ofSetup.riderInBack();
-        }
+        private int hottest;
+        private int mostFront;
+        private int mostBack;
 
         /**
          * From the last stretch to the first: the fewest seconds from there on, by heat and both winds
          * ahead of the stretch.
          */
-        void seek(Rider inFront, Rider inBack) {
-            front = inFront;
-            back = inBack;
+        void seek(Setup setup, Rider front, Rider back) {
+            hottest = setup.hottest;
+            mostFront = front.wind;
+            mostBack = back.wind;
             for (int pair = 0; pair < PAIRS_OF_EFFORTS; pair++) {
                 pairTreads[pair] = mostTreads(front, pair / EFFORTS, back, pair % EFFORTS);
             }
-            findHeats();
+            findHeats(setup);
             for (int cell = 0; cell < onward.length; cell++) onward[cell] = 0;
-            for (int i = setup.stretches - 1; i >= 1; i--) stepAhead(i);
-            chooseFirst();
+            for (int i = setup.stretches - 1; i >= 1; i--) stepAhead(setup.ground[i], heatBits[i], setup.pause);
+            int pair = chooseFirst(setup.ground[0]);
+            if (pair == NONE) {
+                firstStretch = NONE;
+            } else {
+                int beat = leastBeatFor(pair, Ground.hardOf(setup.ground[0]), front, back);
+                firstStretch = 100 * (pair / EFFORTS) + 10 * (pair % EFFORTS) + beat - LEAST_BEAT;
+            }
         }
 
         /** The heats that any plan can have ahead of each stretch, as bits: few of all, so the search is short. */
-        private void findHeats() {
+        private void findHeats(Setup setup) {
             heatBits[0] = 1;
             for (int i = 0; i < setup.stretches; i++) {
                 int bits = 0;
-                for (int heat = 0; heat <= setup.hottest; heat++) {
+                for (int heat = 0; heat <= hottest; heat++) {
                     // Heat 0 stands for a rest, too, which may come ahead of any stretch.
                     if (heat != 0 && (heatBits[i] >> heat & 1) == 0) continue;
                     int behind = Ground.heatBehind(heat, setup.ground[i]);
-                    if (behind <= setup.hottest) bits |= 1 << behind;
+                    if (behind <= hottest) bits |= 1 << behind;
                 }
                 heatBits[i + 1] = bits;
             }
         }
 
-        /** Makes the seconds from a stretch on out of those from the next one on. */
-        private void stepAhead(int stretch) {
-            int sort = setup.ground[stretch];
+        /** Makes the seconds from a stretch on, for the heats told as bits, out of those from the next one on. */
+        private void stepAhead(int sort, int heats, int pause) {
             listChoices(Ground.hardOf(sort));
-            int rested = setup.pause + fewestOnward(Ground.heatBehind(0, sort), front.wind, back.wind, FAR);
-            for (int heat = 0; heat <= setup.hottest; heat++) {
-                if ((heatBits[stretch] >> heat & 1) == 0) continue;
+            int rested = pause + fewestOnward(Ground.heatBehind(0, sort), mostFront, mostBack, FAR);
+            for (int heat = 0; heat <= hottest; heat++) {
+                if ((heats >> heat & 1) == 0) continue;
                 int behind = Ground.heatBehind(heat, sort);
-                for (int wf = 0; wf <= front.wind; wf++) {
-                    for (int wb = 0; wb <= back.wind; wb++) {
+                for (int wf = 0; wf <= mostFront; wf++) {
+                    for (int wb = 0; wb <= mostBack; wb++) {
                         spare[cellOf(heat, wf, wb)] = fewestOnward(behind, wf, wb, rested);
                     }
                 }
@@ -924,11 +924,11 @@ public final class TandemRide {
 
         /** The fewest seconds, at most the limit, from winds ahead of a stretch whose heat behind it is told. */
         private int fewestOnward(int heatBehind, int wf, int wb, int limit) {
-            if (heatBehind > setup.hottest) return limit;
+            if (heatBehind > hottest) return limit;
             int least = limit;
             for (int c = 0; c < choices; c++) {
-                int nextFront = front.windBehind(wf, choiceFront[c]);
-                int nextBack = back.windBehind(wb, choiceBack[c]);
+                int nextFront = Rider.windBehind(mostFront, wf, choiceFront[c]);
+                int nextBack = Rider.windBehind(mostBack, wb, choiceBack[c]);
                 if (nextFront < 0 || nextBack < 0) continue;
                 least = Math.min(least, choiceSeconds[c] + onward[cellOf(heatBehind, nextFront, nextBack)]);
             }
@@ -939,32 +939,31 @@ public final class TandemRide {
             return (heat * WINDS + wf) * WINDS + wb;
         }
 
-        /** No rest can help ahead of the first stretch: both have their most wind and nothing is hot. */
-        private void chooseFirst() {
-            int hard = Ground.hardOf(setup.ground[0]);
-            int heat = Ground.heatBehind(0, setup.ground[0]);
+        /**
+         * Finds the fewest seconds, and the least pair of efforts on the first stretch that comes to them; NONE if
+         * none does. No rest can help ahead of it: both have their most wind and nothing is hot.
+         */
+        private int chooseFirst(int sort) {
+            int hard = Ground.hardOf(sort);
+            int heat = Ground.heatBehind(0, sort);
             int chosen = NONE;
-            fewest = FAR;
+            fewest = NONE;
             for (int pair = 0; pair < PAIRS_OF_EFFORTS; pair++) {
-                int wf = front.windBehind(front.wind, pair / EFFORTS);
-                int wb = back.windBehind(back.wind, pair % EFFORTS);
-                if (wf < 0 || wb < 0 || heat > setup.hottest) continue;
+                int wf = Rider.windBehind(mostFront, mostFront, pair / EFFORTS);
+                int wb = Rider.windBehind(mostBack, mostBack, pair % EFFORTS);
+                if (wf < 0 || wb < 0 || heat > hottest) continue;
                 int seconds = Ground.secondsOf(hard, pairTreads[pair]) + onward[cellOf(heat, wf, wb)];
-                if (seconds < fewest) {
+                if (chosen == NONE || seconds < fewest) {
                     fewest = seconds;
                     chosen = pair;
                 }
             }
-            if (chosen == NONE) {
-                fewest = NONE;
-                firstStretch = NONE;
-            } else {
-                int beat = leastBeatFor(chosen, Ground.secondsOf(hard, pairTreads[chosen]), hard);
-                firstStretch = 100 * (chosen / EFFORTS) + 10 * (chosen % EFFORTS) + beat - LEAST_BEAT;
-            }
+            return chosen;
         }
 
-        private int leastBeatFor(int pair, int seconds, int hard) {
+        /** The least beat at which a pair of efforts takes no longer than at its best. */
+        private int leastBeatFor(int pair, int hard, Rider front, Rider back) {
+            int seconds = Ground.secondsOf(hard, pairTreads[pair]);
             for (int beat = LEAST_BEAT; beat < MOST_BEAT; beat++) {
                 int treads = front.treads(pair / EFFORTS, beat) + back.treads(pair % EFFORTS, beat);
                 if (Ground.secondsOf(hard, treads) == seconds) return beat;
@@ -976,7 +975,7 @@ public final class TandemRide {
          * The fewest calls above the bits of which stretches, as one number, so that the least of the numbers
          * is of the fewest calls and of these the least as bits.
          */
-        int fewestCalls(int mostSore) {
+        int fewestCalls(Setup setup, int mostSore) {
             for (int sore = 0; sore <= mostSore; sore++) callsBySore[sore] = sore == 0 ? 0 : FAR;
             for (int i = 0; i < setup.stretches; i++) {
                 int sort = setup.ground[i];
