@@ -17,6 +17,7 @@ import java.util.regex.Pattern;
 public final class LanguageTest {
     private static final Check CHECK = new Check();
     private static final String SOURCE = "src/main/java/TandemRide.java";
+    private static final int MOST_LINES = 60;
     private static final String[] FACE = {
         "int rider(int,int,int,int,int)", "int leave(int)", "int seat(int,int)", "int set(int,int)", "int say(int)",
         "int wipe()", "int fault(int)", "int way()", "int tread(int,int,int)", "int judge(int)",
@@ -108,7 +109,53 @@ public final class LanguageTest {
         CHECK.due("no lambda, no method reference", !code.contains("->") && !code.contains("::"));
         CHECK.due("all signs are 1 to 127", code.chars().allMatch(sign -> sign > 0 && sign < 128));
         Matcher library = Pattern.compile("\\b(System|Math|Integer|Long|Arrays)\\.(\\w+)").matcher(code);
-        while (library.find()) CHECK.due(library.group() + " is allowed", isAllowed(library.group(1), library.group(2)));
+        while (library.find()) {
+            CHECK.due(library.group() + " is allowed", isAllowed(library.group(1), library.group(2)));
+        }
+        methods(code);
+        constructors(code);
+    }
+
+    private static void methods(String code) {
+        Matcher method = Pattern.compile("(?ms)^( +)([^\\n;=]*\\)) \\{$(.*?)^\\1\\}$").matcher(code);
+        int methods = 0;
+        while (method.find()) {
+            CHECK.due(method.group(2).trim() + " is short", method.group(3).lines().count() <= MOST_LINES);
+            methods++;
+        }
+        CHECK.due("methods that were read: " + methods, methods > FACE.length);
+    }
+
+    /** What a constructor makes is given nothing of the object that it makes. */
+    private static void constructors(String code) {
+        Matcher constructor =
+            Pattern.compile("(?ms)^( +)(?:public )?([A-Z]\\w*)\\([^)]*\\) \\{$(.*?)^\\1\\}$").matcher(code);
+        int constructors = 0;
+        while (constructor.find()) {
+            TreeSet<String> own = fieldsOf(constructor.group(2));
+            own.add("this");
+            Matcher made = Pattern.compile("\\bnew \\w+\\(([^)]*)\\)").matcher(constructor.group(3));
+            while (made.find()) {
+                for (String word : made.group(1).split("\\W+")) {
+                    CHECK.due(constructor.group(2) + " keeps " + word, !own.contains(word));
+                }
+            }
+            constructors++;
+        }
+        CHECK.due("constructors that were read: " + constructors, constructors > 0);
+    }
+
+    private static TreeSet<String> fieldsOf(String className) {
+        List<Class<?>> classes = new ArrayList<>(Arrays.asList(TandemRide.class.getDeclaredClasses()));
+        classes.add(TandemRide.class);
+        TreeSet<String> names = new TreeSet<>();
+        for (Class<?> type : classes) {
+            if (!type.getSimpleName().equals(className)) continue;
+            for (Field f : type.getDeclaredFields()) {
+                if (!isStatic(f)) names.add(f.getName());
+            }
+        }
+        return names;
     }
 
     private static boolean isAllowed(String type, String function) {
