@@ -16,6 +16,7 @@ public final class RiderEdgesTest {
         settings();
         emptyPad();
         fullPad();
+        signsThatWent();
         leastAndMostSign();
         signsOfAWay();
         lengthOfAWay();
@@ -196,6 +197,33 @@ public final class RiderEdgesTest {
         due("say when it is wiped", x.say('c'), 1);
         due("way()", x.way(), 1);
         due("told(100)", x.told(100), 'c');
+    }
+
+    /** The sign behind the last would make each of these texts whole, or faulty, if it still counted. */
+    private static void signsThatWent() {
+        CHECK.promise("7 signs that were wiped are not there");
+        TandemRide x = new TandemRide();
+        Check.say(x, "22b");
+        x.wipe();
+        Check.say(x, "22");
+        due("fault(1) of 22, behind 22b", x.fault(1), 2);
+        x.wipe();
+        Check.say(x, "2");
+        due("fault(1) of 2, behind 22", x.fault(1), 1);
+        x.wipe();
+        Check.say(x, "..x");
+        x.wipe();
+        Check.say(x, "..");
+        due("fault(0) of .., behind ..x", x.fault(0), TandemRide.NONE);
+        CHECK.promise("9 signs that became THE WAY are not there");
+        due("way()", x.way(), 2);
+        due("fault(0) of the empty PAD", x.fault(0), 0);
+        x.wipe();
+        Check.say(x, ".u");
+        due("way() of .u", x.way(), 2);
+        Check.say(x, ".");
+        due("way() of .", x.way(), 1);
+        due("told(101)", x.told(101), TandemRide.OUTSIDE);
     }
 
     private static void leastAndMostSign() {
